@@ -1,0 +1,225 @@
+import java.lang.reflect.Method;
+import java.util.Arrays;
+
+/**
+ * Long runs of calls, made up by a fixed rule, on a ClauseBook and on a PlainBook: both must answer alike. Each call is
+ * written as its name and, for each number that it takes, a letter that says what is mostly given there.
+ */
+public final class PlainBookTest {
+    /** How often a call is made stands ahead of it. */
+    private static final String[] CALLS = {
+        "2 start SUU", "2 odds PQ", "2 wait PQ", "1 price DK", "1 spotOf HD",
+        "12 clause TNCC", "3 clauseOf XW", "2 drop", "2 swap XCC",
+        "8 value XDKB", "4 mean XDKB", "8 valueAs XDKW", "4 chosen XDK", "4 taken XDH", "3 alike XX", "3 unlike XX", "3 most XD",
+        "4 due XDHD", "3 dueDays XDH", "4 failed XDHDQ", "4 dues XDHS",
+        "0 feed", "6 text", "4 put GX", "1 take G", "1 bagOf GI", "2 pour GGM", "2 bagBest GDK", "1 sum G",
+        "2 sheet SRI", "3 cell SIL", "5 read SIB", "4 halve SI", "2 copy SISII",
+        "3 hold SBLL", "2 asClause SB", "2 asFraction SB", "2 compare SXDK", "1 image", "1 back", "1 count B"};
+    private static final String[] WORDS = {"nothing", "one", "given", "scaled", "priced", "both", "better", "worse", "until", "then", "late", "free", "where"};
+
+    private final long[] seed;
+    private ClauseBook tried;
+    private PlainBook plain;
+    private String run = "";
+
+    private PlainBookTest(long seed) {
+        this.seed = new long[] {seed * 7919 + 17};
+    }
+
+    private int below(int n) {
+        seed[0] = seed[0] * 6364136223846793005L + 1442695040888963407L;
+        return (int) ((seed[0] >>> 33) % n);
+    }
+
+    private int between(int least, int most) {
+        return least + below(most - least + 1);
+    }
+
+    public static void main(String[] args) throws Exception {
+        for (int i = 0; i < 3000; i++) new PlainBookTest(i).go(i);
+        Check.end();
+    }
+
+    private void go(int number) throws Exception {
+        tried = new ClauseBook();
+        plain = new PlainBook();
+        run = "run " + number + " ";
+        int total = 0;
+        for (String call : CALLS) total += Integer.parseInt(call.split(" ")[0]);
+        int style = below(4);
+        for (int made = 0; made < 300; made++) {
+            if (style == 1 && made < 20) {
+                ask("clause", below(12) == 0 ? new long[] {1, 0, 0, 0} : richClause());
+                continue;
+            }
+            if (style == 2 && made < 22) {
+                ask("clause", deepClause(made));
+                continue;
+            }
+            int at = below(total);
+            for (String call : CALLS) {
+                String[] said = call.split(" ");
+                at -= Integer.parseInt(said[0]);
+                if (at >= 0) continue;
+                if (said[1].equals("text")) tell();
+                else if (said[1].equals("cell") || said[1].equals("halve")) shrink(said);
+                else ask(said[1], said.length > 2 ? numbers(said[2]) : new long[0]);
+                break;
+            }
+        }
+    }
+
+    private long[] richClause() {
+        int kind = between(2, 12);
+        int had = tried.count(0);
+        int late = had > 0 ? below(Math.min(had, 5)) : 0;
+        int c = Math.max(0, had - 1 - late);
+        int d = had > 0 ? below(had) : 0;
+        int n = kind == 3 ? between(-9, 9) : kind == 8 ? between(0, 6) : kind == 12 ? between(-30, 30) : 0;
+        boolean two = kind == 5 || kind == 6 || kind == 7 || kind == 9 || kind == 12;
+        return new long[] {kind, n, c, two ? d : 0};
+    }
+
+    /** Towers that come near to what 64 bits hold. */
+    private long[] deepClause(int made) {
+        if (made == 0) return new long[] {1, 0, 0, 0};
+        int had = Math.max(1, tried.count(0));
+        int kind = new int[] {3, 3, 4, 4, 4, 5, 10, 11, 2}[below(9)];
+        int n = kind == 3 ? new int[] {-8, -4, 8, 9, 7, -9}[below(6)] : 0;
+        return new long[] {kind, n, had - 1, kind == 5 ? below(had) : 0};
+    }
+
+    private long[] numbers(String letters) {
+        long[] all = new long[letters.length()];
+        int day = -1;
+        for (int i = 0; i < all.length; i++) {
+            char letter = letters.charAt(i);
+            all[i] = letter == 'K' && day >= 0 && below(20) > 0 ? between(0, day) : number(letter);
+            if (letter == 'D') day = (int) all[i];
+        }
+        if (letters.equals("TNCC") && below(10) > 0) return richClause();
+        return all;
+    }
+
+    private long number(char letter) {
+        if (below(60) == 0) return new int[] {-1, -2, Integer.MIN_VALUE, Integer.MAX_VALUE, 7, 100, 64}[below(7)];
+        return switch (letter) {
+            case 'S' -> below(4);
+            case 'U' -> between(0, 9);
+            case 'P' -> between(0, 5);
+            case 'Q' -> between(1, 9);
+            case 'D' -> between(0, 6);
+            case 'K' -> between(0, 3);
+            case 'H' -> between(0, 63);
+            case 'T' -> between(0, 12);
+            case 'N' -> below(3) > 0 ? 0 : between(-9, 9);
+            case 'C' -> below(3) == 0 ? 0 : between(0, Math.max(0, tried.count(0) - 1));
+            case 'X' -> between(0, Math.max(0, tried.count(0) - 1));
+            case 'W' -> between(0, 6);
+            case 'B' -> between(0, 3);
+            case 'G' -> between(0, 2);
+            case 'I' -> below(5) == 0 ? between(-2, 32) : between(0, 10);
+            case 'M' -> between(-1, 6);
+            case 'R' -> between(-1, 3);
+            default -> big();
+        };
+    }
+
+    private long big() {
+        long whole = ((long) below(Integer.MAX_VALUE) << 33) ^ ((long) below(Integer.MAX_VALUE) << 11) ^ below(2048);
+        long[] edges = {Long.MIN_VALUE, Long.MAX_VALUE, Integer.MIN_VALUE, Integer.MAX_VALUE, Integer.MIN_VALUE - 1L, Integer.MAX_VALUE + 1L, -Long.MAX_VALUE, 7, -7, 0, 1, -1};
+        return switch (below(4)) {
+            case 0 -> edges[below(edges.length)];
+            case 1 -> between(-40, 40);
+            default -> whole >> below(64);
+        };
+    }
+
+    /** Many halves in a row, so that floats get too small to be told from 0. */
+    private void shrink(String[] said) throws Exception {
+        if (said[1].equals("cell") || below(6) > 0) {
+            ask(said[1], numbers(said[2]));
+            return;
+        }
+        long s = below(4);
+        long i = between(0, 3);
+        int times = between(1, 60);
+        for (int t = 0; t < times; t++) ask("halve", s, i);
+        ask("read", s, i, 0L);
+        ask("read", s, i, 3L);
+    }
+
+    private void tell() throws Exception {
+        StringBuilder all = new StringBuilder();
+        if (below(8) == 0) all.append(' ');
+        if (below(6) > 0) {
+            say(all, 0);
+        } else {
+            int words = below(8);
+            for (int i = 0; i < words; i++) all.append(WORDS[below(13)]).append(below(5) == 0 ? "" : " ").append(below(4) == 0 ? Integer.toString(between(-12, 120)) : "");
+        }
+        if (below(4) == 0) all.append("  ");
+        if (below(5) == 0 && all.length() > 0) all.setCharAt(below(all.length()), (char) new int[] {' ', '-', 'e', '9', 0, 255, 'Z', 200, 10}[below(9)]);
+        if (below(12) == 0) all.append(WORDS[below(13)]);
+        for (int at = 0; at < all.length(); ) {
+            int n = Math.min(between(1, 4), all.length() - at);
+            int bytes = below(256);
+            for (int i = 0; i < n; i++) bytes = bytes & ~(255 << 24 - 8 * i) | all.charAt(at + i) << 24 - 8 * i;
+            ask("feed", n, bytes);
+            at += n;
+        }
+        ask("text");
+    }
+
+    private void say(StringBuilder all, int deep) {
+        int kind = deep > 3 || below(3) == 0 ? below(2) : between(2, 12);
+        all.append(WORDS[kind]);
+        boolean numbered = kind == 3 || kind == 8 || kind == 12;
+        if (numbered && below(3) > 0) all.append(' ');
+        if (numbered) all.append(kind == 8 ? between(0, 6) : kind == 3 ? between(-9, 9) : between(-99, 99));
+        if (numbered ? below(3) > 0 : kind > 1) all.append(' ');
+        if (kind > 1) say(all, deep + 1);
+        if (kind == 5 || kind == 6 || kind == 7 || kind == 9 || kind == 12) {
+            all.append(' ');
+            say(all, deep + 1);
+        }
+    }
+
+    private void ask(String name, long... numbers) throws Exception {
+        long got = call(tried, name, numbers);
+        long want = call(plain, name, numbers);
+        Check.due(run + name + Arrays.toString(numbers), got, want);
+        tally(name, want);
+    }
+
+    private static final java.util.Map<String, Integer> TALLY = new java.util.TreeMap<>();
+
+    private static void tally(String name, long answer) {
+        if (!Boolean.getBoolean("tally")) return;
+        long code = answer < -4611686018427387800L && answer > -4611686018427388000L ? answer + 4611686018427387904L : answer;
+        TALLY.merge(name + " " + (code < 0 && code > -20 ? Long.toString(code) : "answer"), 1, Integer::sum);
+    }
+
+    static {
+        if (Boolean.getBoolean("tally")) Runtime.getRuntime().addShutdownHook(new Thread(() -> System.out.println(TALLY)));
+    }
+
+    private static final java.util.Map<String, Method> METHODS = new java.util.HashMap<>();
+
+    private static Method method(Object object, String name) {
+        return METHODS.computeIfAbsent(object.getClass().getName() + "." + name, key -> {
+            for (Method m : object.getClass().getDeclaredMethods()) {
+                if (m.getName().equals(name) && java.lang.reflect.Modifier.isPublic(m.getModifiers())) return m;
+            }
+            throw new IllegalStateException("no such call: " + key);
+        });
+    }
+
+    private static long call(Object object, String name, long[] numbers) throws Exception {
+        Method m = method(object, name);
+        Class<?>[] types = m.getParameterTypes();
+        Object[] given = new Object[types.length];
+        for (int i = 0; i < given.length; i++) given[i] = types[i] == int.class ? (Object) (int) numbers[i] : (Object) numbers[i];
+        return ((Number) m.invoke(object, given)).longValue();
+    }
+}
