@@ -1,5 +1,8 @@
 import java.lang.reflect.Method;
+import java.lang.reflect.Modifier;
 import java.util.Arrays;
+import java.util.HashMap;
+import java.util.Map;
 
 /**
  * Long runs of calls, made up by a fixed rule, on a ClauseBook and on a PlainBook: both must answer alike. Each call is
@@ -8,13 +11,13 @@ import java.util.Arrays;
 public final class PlainBookTest {
     /** How often a call is made stands ahead of it. */
     private static final String[] CALLS = {
-        "2 start SUU", "2 odds PQ", "2 wait PQ", "1 price DK", "1 spotOf HD",
-        "12 clause TNCC", "3 clauseOf XW", "2 drop", "2 swap XCC",
-        "8 value XDKB", "4 mean XDKB", "8 valueAs XDKW", "4 chosen XDK", "4 taken XDH", "3 alike XX", "3 unlike XX", "3 most XD",
-        "4 due XDHD", "3 dueDays XDH", "4 failed XDHDQ", "4 dues XDHS",
-        "0 feed", "6 text", "4 put GX", "1 take G", "1 bagOf GI", "2 pour GGM", "2 bagBest GDK", "1 sum G",
-        "2 sheet SRI", "3 cell SIL", "5 read SIB", "4 halve SI", "2 copy SISII",
-        "3 hold SBLL", "2 asClause SB", "2 asFraction SB", "2 compare SXDK", "1 image", "1 back", "1 count B"};
+        "3 start AUU", "2 odds PQ", "2 wait PQ", "1 price DK", "1 spotOf HD",
+        "12 clause TNCC", "3 clauseOf XW", "1 drop", "3 swap XCC",
+        "8 value XDKb", "6 mean XDKb", "8 valueAs XDKW", "6 chosen EDK", "6 taken FDH", "4 alike XX", "4 unlike XX", "4 most XD",
+        "5 due XDHD", "4 dueDays XDH", "5 failed XDHDQ", "5 dues XDHS",
+        "0 feed", "5 text", "4 put GX", "1 take G", "1 bagOf GI", "2 pour GGM", "3 bagBest GDK", "1 sum G",
+        "1 sheet SRJ", "4 cell SIL", "6 read SIB", "4 halve SI", "3 copy SISII",
+        "3 hold SBLL", "2 asClause SB", "2 asFraction Sb", "5 compare SXDK", "1 image", "1 back", "1 count B"};
     private static final String[] WORDS = {"nothing", "one", "given", "scaled", "priced", "both", "better", "worse", "until", "then", "late", "free", "where"};
 
     private final long[] seed;
@@ -47,6 +50,8 @@ public final class PlainBookTest {
         int total = 0;
         for (String call : CALLS) total += Integer.parseInt(call.split(" ")[0]);
         int style = below(4);
+        if (below(3) > 0) for (int i = 0; i < 4; i++) ask("sheet", i, below(4), between(3, 30));
+        if (below(2) > 0) ask("start", between(-99, 99), between(0, 9), between(0, 9));
         for (int made = 0; made < 300; made++) {
             if (style == 1 && made < 20) {
                 ask("clause", below(12) == 0 ? new long[] {1, 0, 0, 0} : richClause());
@@ -62,6 +67,7 @@ public final class PlainBookTest {
                 at -= Integer.parseInt(said[0]);
                 if (at >= 0) continue;
                 if (said[1].equals("text")) tell();
+                else if (said[1].equals("compare") && below(2) > 0) near();
                 else if (said[1].equals("cell") || said[1].equals("halve")) shrink(said);
                 else ask(said[1], said.length > 2 ? numbers(said[2]) : new long[0]);
                 break;
@@ -105,6 +111,11 @@ public final class PlainBookTest {
         if (below(60) == 0) return new int[] {-1, -2, Integer.MIN_VALUE, Integer.MAX_VALUE, 7, 100, 64}[below(7)];
         return switch (letter) {
             case 'S' -> below(4);
+            case 'A' -> between(-99, 99);
+            case 'b' -> below(12) == 0 ? 2 : below(2);
+            case 'E' -> ofKind(below(2) + 6);
+            case 'F' -> ofKind(11);
+            case 'J' -> below(10) == 0 ? between(-2, 32) : between(4, 20);
             case 'U' -> between(0, 9);
             case 'P' -> between(0, 5);
             case 'Q' -> between(1, 9);
@@ -123,6 +134,28 @@ public final class PlainBookTest {
             case 'R' -> between(-1, 3);
             default -> big();
         };
+    }
+
+    /** A clause of a kind, if there is one. */
+    private long ofKind(int kind) {
+        int had = tried.count(0);
+        int first = below(Math.max(1, had));
+        for (int i = 0; i < had; i++) if (tried.clauseOf((first + i) % had, 0) == kind) return (first + i) % had;
+        return first;
+    }
+
+    /** A value against a fraction that is alike, or hardly more or less. */
+    private void near() throws Exception {
+        long x = below(Math.max(1, tried.count(0)));
+        long day = between(0, 6);
+        long spot = between(0, (int) day);
+        long above = plain.value((int) x, (int) day, (int) spot, 0);
+        long below = plain.value((int) x, (int) day, (int) spot, 1);
+        long times = 1 + big() % 1000000007L;
+        if (below <= 0 || times <= 0 || Math.multiplyHigh(above, times) != above * times >> 63 || Math.multiplyHigh(below, times) != 0) times = 1;
+        ask("hold", 2, 2, above * times + between(-1, 1), below * times);
+        ask("compare", 2, x, day, spot);
+        ask("asFraction", 2, 0);
     }
 
     private long big() {
@@ -189,27 +222,14 @@ public final class PlainBookTest {
         long got = call(tried, name, numbers);
         long want = call(plain, name, numbers);
         Check.due(run + name + Arrays.toString(numbers), got, want);
-        tally(name, want);
     }
 
-    private static final java.util.Map<String, Integer> TALLY = new java.util.TreeMap<>();
-
-    private static void tally(String name, long answer) {
-        if (!Boolean.getBoolean("tally")) return;
-        long code = answer < -4611686018427387800L && answer > -4611686018427388000L ? answer + 4611686018427387904L : answer;
-        TALLY.merge(name + " " + (code < 0 && code > -20 ? Long.toString(code) : "answer"), 1, Integer::sum);
-    }
-
-    static {
-        if (Boolean.getBoolean("tally")) Runtime.getRuntime().addShutdownHook(new Thread(() -> System.out.println(TALLY)));
-    }
-
-    private static final java.util.Map<String, Method> METHODS = new java.util.HashMap<>();
+    private static final Map<String, Method> METHODS = new HashMap<>();
 
     private static Method method(Object object, String name) {
         return METHODS.computeIfAbsent(object.getClass().getName() + "." + name, key -> {
             for (Method m : object.getClass().getDeclaredMethods()) {
-                if (m.getName().equals(name) && java.lang.reflect.Modifier.isPublic(m.getModifiers())) return m;
+                if (m.getName().equals(name) && Modifier.isPublic(m.getModifiers())) return m;
             }
             throw new IllegalStateException("no such call: " + key);
         });
