@@ -99,6 +99,8 @@ public final class BagsTest {
         Check.due("empty", book.bagBest(0, 0, 0), ClauseBook.NONE);
         fill(book, 0, 2, 0, 1, 1, 3);
         Check.due("5, the first", book.bagBest(0, 0, 0), 2);
+        fill(book, 2, 1, 0, 1);
+        Check.due("5, at place 0", book.bagBest(2, 0, 0), 0);
         fill(book, 1, 3);
         book.drop();
         Check.due("a number of none", book.bagBest(1, 0, 0), ClauseBook.NONE);

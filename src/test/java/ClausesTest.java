@@ -73,6 +73,8 @@ public final class ClausesTest {
         Check.due("what", book.clauseOf(0, 7), ClauseBook.BAD);
         Check.due("x", book.clauseOf(5, 0), ClauseBook.BAD);
         Check.due("x", book.clauseOf(-1, 0), ClauseBook.BAD);
+        book.clause(9, 0, 0, 2);
+        asked(book, 5, 9, 0, 0, 2, 6, 6, 4);
         ClauseBook tower = new ClauseBook();
         tower.clause(1, 0, 0, 0);
         for (int i = 0; i < 23; i++) tower.clause(5, 0, i, i);

@@ -10,6 +10,7 @@ public final class DuesTest {
         promise20DueDays();
         promise21Failed();
         promise21Much();
+        promise21TogetherMuch();
         promise22Dues();
         promise22Refused();
         Check.end();
@@ -117,6 +118,11 @@ public final class DuesTest {
         Check.due("h + h, where the price is so", twice.due(23, 0, 0, 0), NO_MUCH);
         twice.start(-1, 0, 0);
         Check.due("where it is not", twice.due(23, 0, 0, 0), 1);
+        ClauseBook free = tower(9, 20);
+        free.clause(12, 1, 20, 0);
+        free.clause(11, 0, 21, 0);
+        Check.due("a day to take it that needs too much", free.due(22, 0, 0, 0), NO_MUCH);
+        Check.due("a day to take it that does not", free.due(22, 6, 0, 6), 1);
     }
 
     private static void promise19TooManyClauses() {
@@ -204,6 +210,20 @@ public final class DuesTest {
         Check.due("the sum of both is not", sums.failed(both, 0, 0, 1, 1), (7L << 60) + (7L << 60) / 9);
         sums.swap(more, 19, 0);
         Check.due("less", sums.failed(both, 0, 0, 1, 9), 2 * (7L << 57));
+    }
+
+    private static void promise21TogetherMuch() {
+        ClauseBook book = tower(-8, 21);
+        int late = book.clause(10, 0, 1, 0);
+        int both = book.clause(5, 0, 21, late);
+        falls("-2 to the 63rd, then -8", book, both, 0, 0, Long.MIN_VALUE, 0, 0, 0, 0, 0, -8);
+        Check.due("together too much", book.failed(both, 0, 0, 1, 9), NO_MUCH);
+        Check.due("-8 * 1 / 9 is cut", book.failed(both, 0, 0, 1, 1), Long.MIN_VALUE);
+        Check.due("-8 * 2 / 9 is -1", book.failed(both, 0, 0, 6, 2), NO_MUCH);
+        Check.due("all behind is too much", book.failed(both, 0, 0, 0, 0), NO_MUCH);
+        book.swap(late, 2, 0);
+        Check.due("64 behind", book.failed(both, 0, 0, 6, 9), Long.MIN_VALUE + 64);
+        Check.due("added day by day", book.failed(both, 0, 0, 0, 1), (Long.MIN_VALUE + 64) / 9);
     }
 
     private static void promise22Dues() {

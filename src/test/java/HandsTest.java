@@ -170,44 +170,63 @@ public final class HandsTest {
         Check.due("there is none", book.back(), ClauseBook.STATE);
         book.start(20, 4, 3);
         book.odds(1, 3);
-        book.wait(1, 2);
+        book.wait(3, 4);
+        book.clause(4, 0, 1, 0);
         book.put(0, 2);
         book.put(2, 3);
+        book.put(2, 4);
         book.sheet(0, 0, 1);
-        long mean = book.mean(2, 0, 0, 1);
-        book.image();
+        Check.due("image", book.image(), 5);
+        for (int again = 0; again < 2; again++) {
+            spoil(book);
+            Check.due("back", book.back(), 5);
+            asKept(book);
+        }
+        Check.due("sheets stay", book.read(0, 0, 0), 77);
+        Check.due("hands stay", book.hold(0, 1, 0, 0), 1);
+        book.feed(1, 'x' << 24);
+        Check.due("the tape stays, with two blanks", book.text(), -102);
+    }
+
+    /** All that an image keeps becomes other, and some that it doesn't keep. */
+    private static void spoil(ClauseBook book) {
         book.start(-20, 1, 1);
         book.odds(2, 7);
         book.wait(3, 5);
+        while (book.count(0) > 1) book.drop();
+        book.clause(8, 1, 0, 0);
+        book.clause(2, 0, 1, 0);
+        book.clause(12, 3, 2, 1);
+        book.clause(11, 0, 3, 0);
+        book.clause(11, 0, 4, 0);
+        for (int x = 0; x < 6; x++) book.value(x, 0, 0, 0);
         book.take(0);
+        book.put(0, 1);
+        book.put(0, 0);
         book.put(1, 1);
-        book.swap(2, 0, 0);
-        book.drop();
-        book.clause(8, 1, 2, 0);
-        book.clause(2, 0, 2, 0);
+        book.take(2);
+        book.take(2);
+        book.put(2, 5);
         book.cell(0, 0, 77);
         book.hold(0, 1, 4, 0);
-        book.feed(2, 'o' << 24 | 'n' << 16);
-        for (int again = 0; again < 2; again++) {
-            Check.due("back", book.back(), 4);
-            Check.due("START, UP, DOWN", book.price(3, 2), 25);
-            Check.due("ODDS, WAIT", book.mean(2, 0, 0, 1), mean);
-            Check.due("names", book.clauseOf(2, 3), 1);
-            Check.due("value", book.value(2, 0, 0, 0), 6);
-            Check.due("kinds", book.clauseOf(3, 0), 0);
-            Check.due("ends", book.clauseOf(3, 4), 6);
-            Check.due("what came", book.clauseOf(4, 0), BAD);
-            Check.due("bag 0", book.bagOf(0, 0), 2);
-            Check.due("bag 1", book.bagOf(1, 0), ClauseBook.PLACE);
-            Check.due("bag 2", book.bagOf(2, 0), 3);
-            Check.due("sheets stay", book.read(0, 0, 0), 77);
-            Check.due("hands stay", book.hold(0, 1, 0, 0), 1);
-            book.clause(1, 0, 0, 0);
-            book.take(0);
-            book.start(1, 1, 1);
-        }
-        book.feed(1, 'e' << 24);
-        Check.due("the tape stays", book.text(), 5);
+        book.feed(1, ' ' << 24);
+    }
+
+    private static void asKept(ClauseBook book) {
+        Check.due("START, UP, DOWN", book.price(3, 2), 25);
+        // (24 * 5 * 1 + 17 * 5 * 2) * 3 of 12: 290 of 4
+        Check.due("ODDS, WAIT", book.mean(4, 0, 0, 0), 145);
+        Check.due("ODDS, WAIT", book.mean(4, 0, 0, 1), 2);
+        int[][] want = {{1, 0, -1, -1, 6, 1, 1}, {3, 5, 0, -1, 6, 2, 2}, {5, 0, 0, 1, 6, 4, 3}, {0, 0, -1, -1, 6, 1, 1}, {4, 0, 1, -1, 6, 3, 3}};
+        for (int x = 0; x < 5; x++) for (int what = 0; what < 7; what++) Check.due("clauseOf(" + x + ", " + what + ")", book.clauseOf(x, what), want[x][what]);
+        int[] values = {1, 5, 6, 0, 100};
+        for (int x = 0; x < 5; x++) Check.due("value", book.value(x, 0, 0, 0), values[x]);
+        Check.due("what came", book.clauseOf(5, 0), BAD);
+        Check.due("bag 0", book.bagOf(0, 0), 2);
+        Check.due("bag 0", book.bagOf(0, 1), ClauseBook.PLACE);
+        Check.due("bag 1", book.bagOf(1, 0), ClauseBook.PLACE);
+        Check.due("bag 2", book.bagOf(2, 0), 3);
+        Check.due("bag 2", book.bagOf(2, 1), 4);
     }
 
     private static void promise42Count() {

@@ -108,6 +108,7 @@ public final class LatticeTest {
         Check.due("101101, day 3", book.spotOf(45, 3), 2);
         Check.due("101101, day 6", book.spotOf(45, 6), 4);
         Check.due("always down", book.spotOf(0, 6), 0);
+        Check.due("always up", book.spotOf(63, 6), 6);
         Check.due("no such path", book.spotOf(64, 0), ClauseBook.BAD);
         Check.due("no such path", book.spotOf(-1, 0), ClauseBook.BAD);
         Check.due("no such day", book.spotOf(0, 7), ClauseBook.BAD);

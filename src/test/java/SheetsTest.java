@@ -21,6 +21,7 @@ public final class SheetsTest {
         for (int sort = 0; sort < 4; sort++) {
             Check.due("sheet", book.sheet(sort, sort, 30), 1);
             Check.due("a cell", book.cell(sort, 29, 5), 1);
+            Check.due("a cell", book.cell(sort, 0, 5), 1);
             Check.due("anew", book.sheet(sort, sort, 30), 1);
             for (int i = 0; i < 30; i++) Check.due("all 0", book.read(sort, i, 0), 0);
             Check.due("no more", book.cell(sort, 30, 0), ClauseBook.PLACE);
@@ -188,6 +189,8 @@ public final class SheetsTest {
         Check.due("missing", book.copy(2, 0, 0, 0, 1), ClauseBook.NOTHING);
         Check.due("missing, both", book.copy(2, 0, 2, 0, 0), ClauseBook.NOTHING);
         Check.due("from", book.copy(4, 0, 2, 0, 0), ClauseBook.BAD);
+        Check.due("to", book.copy(0, 0, 4, 0, 0), ClauseBook.BAD);
+        Check.due("from the last", book.copy(3, 0, 0, 0, 3), 3);
         Check.due("to", book.copy(2, 0, -1, 0, 0), ClauseBook.BAD);
     }
 }

@@ -105,6 +105,8 @@ public final class TextTest {
         String[] texts = {"", "  ", "given", "given ", "both one", "both one ", "scaled", "scaled 3", "scaled 3 ", "until 3 given"};
         for (String text : texts) Check.due("'" + text + "' ends too early", told(book, text), -100 - text.length());
         Check.due("another word", told(book, "given two"), -106);
+        Check.due("another word of three", told(book, "given ane"), -106);
+        Check.due("another word of three", told(book, "given ond"), -106);
         Check.due("two words as one", told(book, "givenone"), -100);
         Check.due("part of a word", told(book, "given on"), -106);
         Check.due("more than a word", told(book, "  ones"), -102);

@@ -9,6 +9,7 @@ public final class WorthTest {
         promise11InTime();
         promise11Much();
         promise11JustNotMuch();
+        promise11SumMuch();
         promise11WhatNeedsMuch();
         promise12Mean();
         promise13ValueAs();
@@ -142,6 +143,20 @@ public final class WorthTest {
         Check.due("2 to the 60th less than 0", book.value(given, 0, 0, 0), -(1L << 60));
     }
 
+    private static void promise11SumMuch() {
+        ClauseBook book = tower(3, 8, 20);
+        int half = book.clause(3, 4, 20, 0);
+        int both = book.clause(5, 0, half, half);
+        Check.due("2 to the 62nd and 2 to the 62nd", book.value(both, 0, 0, 0), NO_MUCH);
+        book.swap(both, half, 20);
+        Check.due("2 to the 62nd and 2 to the 60th", book.value(both, 0, 0, 0), 5L << 60);
+        ClauseBook minus = tower(3, -8, 21);
+        int one = minus.clause(2, 0, 0, 0);
+        Check.due("-2 to the 63rd less 1", minus.value(minus.clause(5, 0, 21, one), 0, 0, 0), NO_MUCH);
+        minus.swap(23, 21, 0);
+        Check.due("-2 to the 63rd and 1", minus.value(23, 0, 0, 0), -Long.MAX_VALUE);
+    }
+
     private static void promise11WhatNeedsMuch() {
         ClauseBook book = tower(3, 9, 20);
         Check.due("9 to the 20th", book.value(20, 0, 0, 0), NO_MUCH);
@@ -173,6 +188,10 @@ public final class WorthTest {
         Check.due("LATE needs no others", book.value(late, 4, 3, 0), 1);
         Check.due("FREE needs later ones", book.value(free, 4, 4, 0), NO_MUCH);
         Check.due("FREE needs no others", book.value(free, 4, 3, 0), 1);
+        book.start(6, 0, 9);
+        Check.due("FREE needs c at once", book.value(free, 0, 0, 0), NO_MUCH);
+        book.odds(0, 2);
+        Check.due("FREE elsewhere", book.value(free, 1, 0, 0), 1);
     }
 
     private static void promise12Mean() {
@@ -245,6 +264,7 @@ public final class WorthTest {
         Check.due("c", book.chosen(gone, 2, 0), 4);
         Check.due("d, the one that can be had", book.chosen(gone, 3, 0), 1);
         int ended = book.clause(7, 0, 4, 3);
+        Check.due("on the last day of both", book.chosen(ended, 2, 0), 3);
         Check.due("neither", book.chosen(ended, 3, 0), ClauseBook.STATE);
         for (int x = 0; x < 6; x++) Check.due("neither BETTER nor WORSE", book.chosen(x, 3, 0), ClauseBook.BAD);
         Check.due("x", book.chosen(ended + 1, 0, 0), ClauseBook.BAD);
@@ -282,6 +302,15 @@ public final class WorthTest {
         tower.clause(11, 0, 20, 0);
         Check.due("much", tower.taken(21, 5, 0), ClauseBook.MUCH);
         Check.due("on its end no value is needed", tower.taken(21, 6, 0), 6);
+        // 22 is too much where the price is 5 or more, 23 would take it
+        tower.drop();
+        tower.clause(12, 5, 20, 1);
+        tower.clause(11, 0, 21, 0);
+        Check.due("MEAN alone is much", tower.taken(22, 4, 15), ClauseBook.MUCH);
+        tower.start(5, 0, 9);
+        Check.due("VALUE of c alone is much", tower.taken(22, 0, 0), ClauseBook.MUCH);
+        tower.start(0, 1, 9);
+        Check.due("ahead of what is much", tower.taken(22, 3, 0), 3);
     }
 
     private static void promise16Alike() {
@@ -294,6 +323,20 @@ public final class WorthTest {
         Check.due("values alike, ends not", book.alike(1, until), 0);
         int scaled = book.clause(3, 0, 3, 0);
         Check.due("values, ends alike", book.alike(scaled, until), 1);
+        int atOnce = book.clause(12, 10, 1, 0);
+        book.start(10, 0, 1);
+        book.clause(12, 10, 0, 0);
+        Check.due("unlike on the highest spots alone", book.alike(atOnce, 0), 0);
+        book.start(10, 1, 0);
+        Check.due("unlike everywhere", book.alike(atOnce, 0), 0);
+        book.start(9, 2, 0);
+        Check.due("unlike but on the lowest spots", book.alike(atOnce, 0), 0);
+        int first = book.clause(8, 0, 0, 0);
+        int none = book.clause(8, 0, 1, 0);
+        Check.due("unlike on day 0 alone", book.alike(first, none), 0);
+        int lowest = book.clause(12, -13, 1, 0);
+        book.start(10, 4, 4);
+        Check.due("unlike on the lowest spot alone", book.alike(lowest, 1), 0);
         Check.due("x", book.alike(-1, 0), ClauseBook.BAD);
         Check.due("y", book.alike(0, 99), ClauseBook.BAD);
         ClauseBook tower = tower(3, 9, 20);
@@ -339,5 +382,16 @@ public final class WorthTest {
         tower.clause(12, 2, 20, 0);
         Check.due("much at one spot", tower.most(21, 2), ClauseBook.MUCH);
         Check.due("much on another day", tower.most(21, 1), 0);
+        tower.swap(21, 0, 20);
+        Check.due("much at the lowest spot", tower.most(21, 2), ClauseBook.MUCH);
+        ClauseBook second = tower(3, 5, 1);
+        second.clause(12, 1, 0, 1);
+        second.clause(12, -1, 2, 0);
+        Check.due("the spot in the middle", second.most(3, 2), 1);
+        second.clause(3, 3, 0, 0);
+        int three = second.clause(12, 1, 4, 3);
+        second.swap(3, 1, 0);
+        Check.due("1, 5, 3", second.most(three, 2), 1);
+        Check.due("the only spot", second.most(1, 0), 0);
     }
 }
