@@ -192,7 +192,7 @@ public final class HandsTest {
     private static void spoil(ClauseBook book) {
         book.start(-20, 1, 1);
         book.odds(2, 7);
-        book.wait(3, 5);
+        book.wait(2, 5);
         while (book.count(0) > 1) book.drop();
         book.clause(8, 1, 0, 0);
         book.clause(2, 0, 1, 0);

@@ -11,6 +11,7 @@ public final class WorthTest {
         promise11JustNotMuch();
         promise11SumMuch();
         promise11WhatNeedsMuch();
+        promise11WhatNeedsMuchLater();
         promise12Mean();
         promise13ValueAs();
         promise14Chosen();
@@ -157,6 +158,16 @@ public final class WorthTest {
         Check.due("-2 to the 63rd and 1", minus.value(23, 0, 0, 0), -Long.MAX_VALUE);
     }
 
+    /** 23 is FREE of a clause that is too much where the price is 6, on day 0 alone, and 1 elsewhere. */
+    private static ClauseBook muchAtOnce() {
+        ClauseBook book = tower(3, 9, 20);
+        book.start(6, 1, 9);
+        book.clause(12, 7, 0, 20);
+        book.clause(12, 6, 21, 0);
+        book.clause(11, 0, 22, 0);
+        return book;
+    }
+
     private static void promise11WhatNeedsMuch() {
         ClauseBook book = tower(3, 9, 20);
         Check.due("9 to the 20th", book.value(20, 0, 0, 0), NO_MUCH);
@@ -171,27 +182,24 @@ public final class WorthTest {
         int where = book.clause(12, 0, 0, 20);
         Check.due("WHERE needs c alone", book.value(where, 2, 1, 0), 1);
         Check.due("WHERE needs d", book.value(where, 2, 0, 0), NO_MUCH);
-        int oneUp = book.swap(then, 0, 0);
-        book.drop();
-        // too much where it went up alone, and it never goes up: MEAN needs it all the same
-        where = book.clause(12, 6, 20, 0);
-        Check.due("odds", book.odds(0, 2) + oneUp, 2);
-        Check.due("MEAN needs what never comes", book.mean(where, 5, 5, 0), NO_MUCH);
+    }
+
+    private static void promise11WhatNeedsMuchLater() {
+        ClauseBook book = tower(3, 9, 20);
+        book.odds(0, 2);
+        int where = book.clause(12, 6, 20, 0);
+        Check.due("MEAN needs what never comes, too", book.mean(where, 5, 5, 0), NO_MUCH);
         Check.due("MEAN elsewhere", book.mean(where, 5, 4, 0), 1);
-        book.drop();
-        book.drop();
-        book.drop();
-        book.clause(12, 6, 20, 0);
-        int late = book.clause(10, 0, 21, 0);
-        int free = book.clause(11, 0, 21, 0);
+        int late = book.clause(10, 0, where, 0);
+        int free = book.clause(11, 0, where, 0);
         Check.due("LATE needs later ones", book.value(late, 4, 4, 0), NO_MUCH);
         Check.due("LATE needs no others", book.value(late, 4, 3, 0), 1);
         Check.due("FREE needs later ones", book.value(free, 4, 4, 0), NO_MUCH);
         Check.due("FREE needs no others", book.value(free, 4, 3, 0), 1);
-        book.start(6, 0, 9);
-        Check.due("FREE needs c at once", book.value(free, 0, 0, 0), NO_MUCH);
-        book.odds(0, 2);
-        Check.due("FREE elsewhere", book.value(free, 1, 0, 0), 1);
+        ClauseBook once = muchAtOnce();
+        Check.due("MEAN is not much", once.mean(23, 0, 0, 0), 1);
+        Check.due("FREE needs c at once", once.value(23, 0, 0, 0), NO_MUCH);
+        Check.due("FREE on the next day", once.value(23, 1, 0, 0), 1);
     }
 
     private static void promise12Mean() {
@@ -307,8 +315,7 @@ public final class WorthTest {
         tower.clause(12, 5, 20, 1);
         tower.clause(11, 0, 21, 0);
         Check.due("MEAN alone is much", tower.taken(22, 4, 15), ClauseBook.MUCH);
-        tower.start(5, 0, 9);
-        Check.due("VALUE of c alone is much", tower.taken(22, 0, 0), ClauseBook.MUCH);
+        Check.due("VALUE of c alone is much", muchAtOnce().taken(23, 0, 0), ClauseBook.MUCH);
         tower.start(0, 1, 9);
         Check.due("ahead of what is much", tower.taken(22, 3, 0), 3);
     }
