@@ -409,7 +409,8 @@ public final class ClauseBook {
         if (fault != 0) return fault;
         int slot = worth.settle(x, day, spot);
         if (worth.isMuch(slot)) return MUCH;
-        return Worth.orderOf(worth.above[slot], worth.below[slot], holder.above, holder.below);
+        worth.reduce(Worth.SPARE, holder.above, holder.below);
+        return worth.order(slot, Worth.SPARE);
     }
 
     public int image() {
@@ -811,10 +812,9 @@ public final class ClauseBook {
 
         /** Into a slot: x of y in lowest terms, y above 0. */
         void reduce(int into, long x, long y) {
-            if (y <= 0) {
-                assign(into, 0, 0);
-                return;
-            }
+            above[into] = 0;
+            below[into] = 0;
+            if (y <= 0) return;
             long common = y;
             long rest = Math.abs(x % y);
             for (int i = 0; i < TURNS && rest != 0; i++) {
@@ -823,24 +823,25 @@ public final class ClauseBook {
                 rest = next;
             }
             if (common == 0) return;
-            assign(into, x / common, y / common);
-        }
-
-        int order(int e, int f) {
-            return orderOf(above[e], below[e], above[f], below[f]);
+            above[into] = x / common;
+            below[into] = y / common;
         }
 
         /**
-         * -1, 0, 1 as x of y is less than, like, more than v of w. The whole parts are compared, then what is left of
+         * -1, 0, 1 as slot e is less than, like, more than slot f. The whole parts are compared, then what is left of
          * both turned over: so no product is needed, and none can be too much.
          */
-        static int orderOf(long x, long y, long v, long w) {
+        int order(int e, int f) {
+            long x = above[e];
+            long y = below[e];
+            long v = above[f];
+            long w = below[f];
             int more = 1;
             for (int i = 0; i < TURNS; i++) {
                 if (y <= 0 || w <= 0) return 0;
-                long e = Math.floorDiv(x, y);
-                long f = Math.floorDiv(v, w);
-                if (e != f) return e > f ? more : -more;
+                long whole = Math.floorDiv(x, y);
+                long other = Math.floorDiv(v, w);
+                if (whole != other) return whole > other ? more : -more;
                 long r = Math.floorMod(x, y);
                 long s = Math.floorMod(v, w);
                 if (r == 0 && s == 0) return 0;

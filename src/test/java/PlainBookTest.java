@@ -1,9 +1,3 @@
-import java.lang.reflect.Method;
-import java.lang.reflect.Modifier;
-import java.util.Arrays;
-import java.util.HashMap;
-import java.util.Map;
-
 /**
  * Long runs of calls, made up by a fixed rule, on a ClauseBook and on a PlainBook: both must answer alike. Each call is
  * written as its name and, for each number that it takes, a letter that says what is mostly given there.
@@ -21,12 +15,15 @@ public final class PlainBookTest {
     private static final String[] WORDS = {"nothing", "one", "given", "scaled", "priced", "both", "better", "worse", "until", "then", "late", "free", "where"};
 
     private final long[] seed;
-    private ClauseBook tried;
-    private PlainBook plain;
-    private String run = "";
+    private final Twins twins;
+    private final ClauseBook tried;
+    private final PlainBook plain;
 
     private PlainBookTest(long seed) {
         this.seed = new long[] {seed * 7919 + 17};
+        twins = new Twins("run " + seed);
+        tried = twins.tried;
+        plain = twins.plain;
     }
 
     private int below(int n) {
@@ -39,14 +36,11 @@ public final class PlainBookTest {
     }
 
     public static void main(String[] args) throws Exception {
-        for (int i = 0; i < 3000; i++) new PlainBookTest(i).go(i);
+        for (int i = 0; i < 3000; i++) new PlainBookTest(i).go();
         Check.end();
     }
 
-    private void go(int number) throws Exception {
-        tried = new ClauseBook();
-        plain = new PlainBook();
-        run = "run " + number + " ";
+    private void go() throws Exception {
         int total = 0;
         for (String call : CALLS) total += Integer.parseInt(call.split(" ")[0]);
         int style = below(4);
@@ -219,27 +213,6 @@ public final class PlainBookTest {
     }
 
     private void ask(String name, long... numbers) throws Exception {
-        long got = call(tried, name, numbers);
-        long want = call(plain, name, numbers);
-        Check.due(run + name + Arrays.toString(numbers), got, want);
-    }
-
-    private static final Map<String, Method> METHODS = new HashMap<>();
-
-    private static Method method(Object object, String name) {
-        return METHODS.computeIfAbsent(object.getClass().getName() + "." + name, key -> {
-            for (Method m : object.getClass().getDeclaredMethods()) {
-                if (m.getName().equals(name) && Modifier.isPublic(m.getModifiers())) return m;
-            }
-            throw new IllegalStateException("no such call: " + key);
-        });
-    }
-
-    private static long call(Object object, String name, long[] numbers) throws Exception {
-        Method m = method(object, name);
-        Class<?>[] types = m.getParameterTypes();
-        Object[] given = new Object[types.length];
-        for (int i = 0; i < given.length; i++) given[i] = types[i] == int.class ? (Object) (int) numbers[i] : (Object) numbers[i];
-        return ((Number) m.invoke(object, given)).longValue();
+        twins.ask(name, numbers);
     }
 }
