@@ -130,6 +130,9 @@ public final class BagsTest {
         holds(book, 0, 1, 2, 3);
         Check.due("bag", book.sum(3), ClauseBook.BAD);
         Check.due("bag", book.sum(-1), ClauseBook.BAD);
+        fill(book, 2, 0, 1, 0, 1, 0, 1, 0, 1, 0, 1, 0, 1);
+        Check.due("a full bag", book.sum(2), 16);
+        Check.due("6 * 1 + 6 * 5", book.value(16, 0, 0, 0), 36);
         while (book.count(0) < 22) book.clause(0, 0, 0, 0);
         Check.due("just room", book.sum(0), 23);
         Check.due("full", book.sum(0), ClauseBook.FULL);

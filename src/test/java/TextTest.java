@@ -97,7 +97,10 @@ public final class TextTest {
         Check.due("where none is due", told(book, "given 3 one"), -106);
         Check.due("two numbers", told(book, "scaled 3 4 one"), -109);
         Check.due("two numbers, no blank", told(book, "scaled 3-4 one"), -108);
+        Check.due("the end right behind it", told(book, "scaled 3"), -108);
         Check.due("how many", book.count(0), 13);
+        Check.due("what stood on the tape before is gone", told(book, "until 22222"), -106);
+        Check.due("what stood on the tape before is gone", told(book, "until 2"), -107);
     }
 
     private static void promise24Faults() {
