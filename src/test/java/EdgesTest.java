@@ -51,6 +51,7 @@ public final class EdgesTest {
                 rest /= from.length;
             }
             twins.ask(m.getName(), numbers);
+            if (twins.worn()) twins = inState(state, m.getName());
         }
     }
 

@@ -16,13 +16,11 @@ public final class PlainBookTest {
 
     private final long[] seed;
     private final Twins twins;
-    private final ClauseBook tried;
     private final PlainBook plain;
 
     private PlainBookTest(long seed) {
         this.seed = new long[] {seed * 7919 + 17};
         twins = new Twins("run " + seed);
-        tried = twins.tried;
         plain = twins.plain;
     }
 
@@ -46,7 +44,7 @@ public final class PlainBookTest {
         int style = below(4);
         if (below(3) > 0) for (int i = 0; i < 4; i++) ask("sheet", i, below(4), between(3, 30));
         if (below(2) > 0) ask("start", between(-99, 99), between(0, 9), between(0, 9));
-        for (int made = 0; made < 300; made++) {
+        for (int made = 0; made < 300 && !twins.worn(); made++) {
             if (style == 1 && made < 20) {
                 ask("clause", below(12) == 0 ? new long[] {1, 0, 0, 0} : richClause());
                 continue;
@@ -71,7 +69,7 @@ public final class PlainBookTest {
 
     private long[] richClause() {
         int kind = between(2, 12);
-        int had = tried.count(0);
+        int had = plain.count(0);
         int late = had > 0 ? below(Math.min(had, 5)) : 0;
         int c = Math.max(0, had - 1 - late);
         int d = had > 0 ? below(had) : 0;
@@ -83,7 +81,7 @@ public final class PlainBookTest {
     /** Towers that come near to what 64 bits hold. */
     private long[] deepClause(int made) {
         if (made == 0) return new long[] {1, 0, 0, 0};
-        int had = Math.max(1, tried.count(0));
+        int had = Math.max(1, plain.count(0));
         int kind = new int[] {3, 3, 4, 4, 4, 5, 10, 11, 2}[below(9)];
         int n = kind == 3 ? new int[] {-8, -4, 8, 9, 7, -9}[below(6)] : 0;
         return new long[] {kind, n, had - 1, kind == 5 ? below(had) : 0};
@@ -118,8 +116,8 @@ public final class PlainBookTest {
             case 'H' -> between(0, 63);
             case 'T' -> between(0, 12);
             case 'N' -> below(3) > 0 ? 0 : between(-9, 9);
-            case 'C' -> below(3) == 0 ? 0 : between(0, Math.max(0, tried.count(0) - 1));
-            case 'X' -> between(0, Math.max(0, tried.count(0) - 1));
+            case 'C' -> below(3) == 0 ? 0 : between(0, Math.max(0, plain.count(0) - 1));
+            case 'X' -> between(0, Math.max(0, plain.count(0) - 1));
             case 'W' -> between(0, 6);
             case 'B' -> between(0, 3);
             case 'G' -> between(0, 2);
@@ -132,15 +130,15 @@ public final class PlainBookTest {
 
     /** A clause of a kind, if there is one. */
     private long ofKind(int kind) {
-        int had = tried.count(0);
+        int had = plain.count(0);
         int first = below(Math.max(1, had));
-        for (int i = 0; i < had; i++) if (tried.clauseOf((first + i) % had, 0) == kind) return (first + i) % had;
+        for (int i = 0; i < had; i++) if (plain.clauseOf((first + i) % had, 0) == kind) return (first + i) % had;
         return first;
     }
 
     /** A value against a fraction that is alike, or hardly more or less. */
     private void near() throws Exception {
-        long x = below(Math.max(1, tried.count(0)));
+        long x = below(Math.max(1, plain.count(0)));
         long day = between(0, 6);
         long spot = between(0, (int) day);
         long above = plain.value((int) x, (int) day, (int) spot, 0);

@@ -128,19 +128,20 @@ public final class SheetsTest {
     /** Floats get too small at last, and are told from 0 by their sign alone then. */
     private static void promise34ToNothing() {
         for (long v : new long[] {-5, 3, -1, 1}) {
-            ClauseBook book = allSorts(1);
+            ClauseBook floats = allSorts(1);
+            ClauseBook doubles = allSorts(1);
             float f = (float) v;
             double d = (double) v;
-            book.cell(2, 0, v);
-            book.cell(3, 0, v);
+            floats.cell(2, 0, v);
+            doubles.cell(3, 0, v);
             for (int i = 0; i < 155; i++) {
-                book.halve(2, 0);
-                book.halve(3, 0);
+                floats.halve(2, 0);
+                doubles.halve(3, 0);
                 f /= 2;
                 d /= 2;
-                Check.due("a float, halved " + i, book.read(2, 0, 0), Float.floatToIntBits(f));
-                Check.due("a double, halved " + i, book.read(3, 0, 0), Double.doubleToLongBits(d));
-                Check.due("a float % 7, halved " + i, book.read(2, 0, 3), Double.doubleToLongBits((double) f % 7));
+                Check.due("a float, halved " + i, floats.read(2, 0, 0), Float.floatToIntBits(f));
+                Check.due("a double, halved " + i, doubles.read(3, 0, 0), Double.doubleToLongBits(d));
+                Check.due("a float % 7, halved " + i, floats.read(2, 0, 3), Double.doubleToLongBits((double) f % 7));
             }
         }
         ClauseBook book = allSorts(1);

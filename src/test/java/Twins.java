@@ -4,19 +4,27 @@ import java.util.Arrays;
 import java.util.HashMap;
 import java.util.Map;
 
-/** A ClauseBook and a PlainBook that are asked the same: they must answer alike. */
+/** A ClauseBook and a PlainBook that are asked the same: they must answer alike, 512 times; no more is asked then. */
 final class Twins {
     private static final Map<String, Method> METHODS = new HashMap<>();
 
     final ClauseBook tried = new ClauseBook();
     final PlainBook plain = new PlainBook();
+    private static final int MOST_CALLS = 512;
     private final String run;
+    private int asked = 0;
 
     Twins(String run) {
         this.run = run;
     }
 
+    boolean worn() {
+        return asked >= MOST_CALLS;
+    }
+
     void ask(String name, long... numbers) throws Exception {
+        if (worn()) return;
+        asked++;
         long got = call(tried, name, numbers);
         long want = call(plain, name, numbers);
         if (got == want) Check.due(name, got, want);

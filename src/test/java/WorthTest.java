@@ -231,15 +231,22 @@ public final class WorthTest {
         for (int how = 0; how < 6; how++) Check.due("valueAs " + v + " as " + how, book.valueAs(x, day, spot, how), want[how]);
     }
 
-    private static void promise13ValueAs() {
+    /** As in small(), and 5 LATE 4, 6 GIVEN 5. */
+    private static ClauseBook smallInTime() {
         ClauseBook book = small();
         book.odds(2, 7);
         book.wait(8, 9);
-        int late = book.clause(10, 0, 4, 0);
-        int given = book.clause(2, 0, late, 0);
-        for (int x = 0; x < book.count(0); x++) {
-            for (int day = 0; day < 7; day++) for (int spot = 0; spot <= day; spot++) as(book, x, day, spot);
+        book.clause(10, 0, 4, 0);
+        book.clause(2, 0, 5, 0);
+        return book;
+    }
+
+    private static void promise13ValueAs() {
+        for (int x = 0; x < 7; x++) {
+            ClauseBook each = smallInTime();
+            for (int day = 0; day < 7; day++) for (int spot = 0; spot <= day; spot++) as(each, x, day, spot);
         }
+        ClauseBook book = smallInTime();
         book.start(-6, 0, 0);
         as(book, 2, 0, 0);
         Check.due("-6 % 0.375 is -0.0", book.valueAs(2, 0, 0, 4), Long.MIN_VALUE);
@@ -247,7 +254,7 @@ public final class WorthTest {
         Check.due("0", book.valueAs(1, 0, 0, 2), 0);
         Check.due("how", book.valueAs(0, 0, 0, 6), NO_BAD);
         Check.due("how", book.valueAs(0, 0, 0, -1), NO_BAD);
-        Check.due("x", book.valueAs(given + 1, 0, 0, 0), NO_BAD);
+        Check.due("x", book.valueAs(7, 0, 0, 0), NO_BAD);
         Check.due("spot", book.valueAs(0, 0, 1, 0), NO_BAD);
         ClauseBook tower = tower(3, -8, 21);
         for (int x = 0; x <= 21; x++) as(tower, x, 0, 0);
