@@ -80,6 +80,7 @@ public final class LanguageTest {
             Check.holds("line " + (i + 1) + " is of signs 1 to 127", line.chars().allMatch(sign -> sign > 0 && sign < 128));
             String code = line.strip();
             if (code.startsWith("*") || code.startsWith("/*") || code.startsWith("//")) continue;
+            Check.holds("line " + (i + 1) + " makes nothing but what is kept", !code.contains("new ") || code.contains("final ") || code.contains("[i] = new "));
             for (String word : FORBIDDEN) Check.holds("line " + (i + 1) + " has no '" + word + "'", !code.contains(word));
             if (code.endsWith("{") && code.contains("(") && !code.startsWith("for") && !code.startsWith("if") && !code.startsWith("}") && !code.startsWith("switch")) begun = i;
             if (code.equals("}")) Check.holds("method at line " + (begun + 1) + " has at most sixty lines", i - begun <= 60 || line.startsWith("}") || line.startsWith("    }"));

@@ -11,9 +11,13 @@ public final class RestOfTermsTest {
     public static void main(String[] args) {
         duesOfNone();
         duesBehindTheEnd();
+        duesAlongAPath();
+        duesTakenAtOnce();
+        duesWhenItIsTakenIsMuch();
         duesMNone64Bits();
         duesMOfNothing();
         duesSumNone64Bits();
+        sumsOfAllBits();
         duesAddedInOrder();
         duesOf2000Clauses();
         failedSumsAndProduct();
@@ -29,6 +33,7 @@ public final class RestOfTermsTest {
         textNoRoomAnyMore();
         textNoRoomCounted();
         textAnotherByte();
+        textAnotherByteForANumber();
         textBehindTheClause();
         textEndsTooEarly();
         textNothingComes();
@@ -92,6 +97,68 @@ public final class RestOfTermsTest {
         }
     }
 
+    /** "BETTER, WORSE: those of the one that is CHOSEN there .. THEN, WHERE: those of the one of which VALUE is told": at the PATH's own SPOT */
+    private static void duesAlongAPath() {
+        ClauseBook book = new ClauseBook();
+        book.clause(ONE, 0, 0, 0);
+        book.clause(SCALED, 2, 0, 0);
+        int late = book.clause(LATE, 0, 1, 0);
+        int where = book.clause(WHERE, 1, 0, late);
+        int priced = book.clause(PRICED, 0, 0, 0);
+        int better = book.clause(BETTER, 0, priced, 0);
+        book.sheet(0, 1, 7);
+        int[][] paths = {{0, 64, 2}, {1, 2, 1}, {2, 64, 2}, {3, 2, 1}, {62, 64, 2}, {63, 2, 1}};
+        for (int[] p : paths) {
+            String path = "path " + p[0];
+            int on = p[1] == 64 ? 6 : 1;
+            Check.due(path + ", dueDays", book.dueDays(where, 1, p[0]), p[1]);
+            Check.due(path + ", due", book.due(where, 1, p[0], on), p[2]);
+            Check.due(path + ", failed", book.failed(where, 1, p[0], on, 9), p[2]);
+            Check.due(path + ", ahead of DAY 2", book.failed(where, 1, p[0], 2, 0), on == 6 ? 0 : 1);
+            Check.due(path + ", dues", book.dues(where, 1, p[0], 0), 7);
+            Check.due(path + ", dues", book.read(0, on, 0), p[2]);
+            Check.due(path + ", dues, not then", book.read(0, 7 - on, 0), 0);
+        }
+        // prices on DAY 2: -2, 0, 2
+        int[] spots = {1, 1, 1, 2, 1, 1, 1, 2};
+        for (int path = 0; path < 8; path++) Check.due("BETTER on DAY 2, path " + path, book.due(better, 2, path, 2), spots[path]);
+        for (int path = 0; path < 64; path++) Check.due("PRICED on DAY 6, path " + path, book.due(priced, 6, path, 6), 2 * Integer.bitCount(path) - 6);
+    }
+
+    /** "FREE: those of c, had as it is TAKEN": on the very DAY on which it is had, or later */
+    private static void duesTakenAtOnce() {
+        ClauseBook book = new ClauseBook();
+        book.clause(ONE, 0, 0, 0);
+        book.clause(PRICED, 0, 0, 0);
+        int free = book.clause(FREE, 0, 1, 0);
+        book.start(50, 1, 1);
+        book.wait(1, 9);
+        for (int day = 0; day <= 6; day++) {
+            Check.due("at once, DAY " + day, book.dueDays(free, day, 63), 1 << day);
+            Check.due("at once, DAY " + day, book.due(free, day, 63, day), 50 + day);
+        }
+        // a PRICE of 0 or less is not taken as long as it may go up; 1 is more than 1 of 9 of what it may become
+        book.start(-2, 1, 0);
+        Check.due("PRICE is 0 from DAY 2 on: on its END", book.dueDays(free, 0, 3), 64);
+        Check.due("going up on and on: PRICE is 1 on DAY 3", book.dueDays(free, 0, 63), 8);
+        Check.due("1", book.due(free, 0, 63, 3), 1);
+        Check.due("had on DAY 4", book.due(free, 4, 63, 4), 2);
+    }
+
+    /** "is .. MUCH" of a DAY on which it is TAKEN: what falls due would not be */
+    private static void duesWhenItIsTakenIsMuch() {
+        ClauseBook book = Make.much();
+        // DAY 0: 58; 11 is too much where PRICE is 64, on DAY 6 at SPOT 6 alone
+        book.start(58, 1, 0);
+        int where = book.clause(WHERE, 64, 11, 0);
+        int free = book.clause(FREE, 0, where, 0);
+        Check.due("it may come to it", book.dueDays(free, 0, 0), MUCH);
+        Check.due("it may come to it", book.due(free, 5, 31, 5), NO_MUCH);
+        Check.due("it can't", book.dueDays(free, 5, 30), 32);
+        Check.due("it has not", book.dueDays(free, 6, 62), 64);
+        Check.due("it has", book.dueDays(free, 6, 63), MUCH);
+    }
+
     /** "is an m .. none of 64 bits: MUCH" */
     private static void duesMNone64Bits() {
         ClauseBook book = huge();
@@ -143,6 +210,25 @@ public final class RestOfTermsTest {
         Check.due("on two DAYS: DAY 0", book.due(apart, 0, 0, 0), 4 * HUGE);
         Check.due("on two DAYS: DAY 6", book.due(apart, 0, 0, 6), 4 * HUGE);
         Check.due("on one: had on DAY 6", book.due(apart, 6, 0, 6), NO_MUCH);
+    }
+
+    /** 0x5555555555555555 and itself are just more than 64 bits hold: all bits turn over. */
+    private static void sumsOfAllBits() {
+        ClauseBook book = new ClauseBook();
+        book.start(64, 0, 0);
+        book.clause(ONE, 0, 0, 0);
+        int[][] made = {{5}, {4, 4}, {64, 4}, {64, 64, 4, 4}, {64, 64, 64, 64, 64, 4}};
+        int last = 0;
+        for (int[] times : made) {
+            int part = last;
+            for (int n : times) last = book.clause(n == 64 ? PRICED : SCALED, n == 64 ? 0 : n, last, 0);
+            if (part > 0) last = book.clause(BOTH, 0, last, part);
+        }
+        Check.due("its VALUE", book.value(last, 0, 0, 0), 0x5555555555555555L);
+        Check.due("it falls due", book.due(last, 0, 0, 0), 0x5555555555555555L);
+        int both = book.clause(BOTH, 0, last, last);
+        Check.due("VALUE of both", book.value(both, 0, 0, 0), NO_MUCH);
+        Check.due("both fall due", book.due(both, 0, 0, 0), NO_MUCH);
     }
 
     /** "All that falls due on a DAY is added in that order, from 0 on" */
@@ -394,6 +480,23 @@ public final class RestOfTermsTest {
         }
     }
 
+    /** "NUMBERS (digits ..; a - right ahead of the digits ..)": no other byte stands for one */
+    private static void textAnotherByteForANumber() {
+        ClauseBook book = new ClauseBook();
+        for (int one = 0; one < 256; one++) {
+            if (one == ' ') continue;
+            boolean digit = one >= '0' && one <= '9';
+            Check.due("byte " + one, Make.told(book, "where" + (char) one + " one one"), digit ? 2 : one >= 'a' && one <= 'z' ? -100 : -105);
+            if (one % 20 == 0 || digit) book = new ClauseBook();
+        }
+        for (int one = 0; one < 256; one++) {
+            if (one == ' ') continue;
+            if (one % 20 == 0) book = new ClauseBook();
+            boolean digit = one >= '0' && one <= '9';
+            Check.due("1 and byte " + one, Make.told(book, "until 1" + (char) one), digit || one >= 'a' && one <= 'z' ? (digit ? -106 : -107) : -107);
+        }
+    }
+
     /** "FAULT: .. what stands behind the CLAUSE" */
     private static void textBehindTheClause() {
         ClauseBook book = new ClauseBook();
@@ -414,6 +517,10 @@ public final class RestOfTermsTest {
         }
         for (int i = 0; i < 30; i++) book.feed(4, 0x20202020);
         Check.due("120 blanks", book.text(), -220);
+        for (int i = 0; i < 29; i++) book.feed(4, 0x20202020);
+        book.feed(3, 0x20202020);
+        book.feed(1, '~' << 24);
+        Check.due("119 blanks, and another byte", book.text(), -219);
         Check.due("none came", book.count(0), 0);
     }
 

@@ -33,7 +33,11 @@ public final class TermsTest {
         belowNone64Bits();
         whatNeedsMuch();
         thenWhereJustTheOne();
+        muchAndNotMuchInTurn();
+        aFullBookInTurn();
         chosenOfLikeOnes();
+        greaterByHardlyAnything();
+        comparedAtItsOwnSpot();
         takenNoLess();
         takenOnItsEnd();
         Check.end();
@@ -546,6 +550,85 @@ public final class TermsTest {
         worth("WHERE needs d alone", book, not, 0, 0, 1, 1);
         book.swap(not, 0, 11);
         much("WHERE needs d", book, not, 0, 0);
+    }
+
+    /** What was told of other prices, odds or names does not last: MUCH comes and goes */
+    private static void muchAndNotMuchInTurn() {
+        ClauseBook book = Make.much();
+        int[] clauses = {11, 12, 13, 14, 15};
+        for (int turn = 0; turn < 3; turn++) {
+            book.start(64, 0, 0);
+            for (int x : clauses) much("price 64, " + x, book, x, 2, 1);
+            book.start(1, 0, 0);
+            for (int x : clauses) worth("price 1, " + x, book, x, 2, 1, 1, 1);
+        }
+        book.start(64, 0, 0);
+        book.swap(11, 0, 0);
+        int[] values = {64, 64, 64, 64, 1};
+        for (int i = 0; i < 5; i++) worth("64 times 1, " + clauses[i], book, clauses[i], 2, 1, values[i], 1);
+        book.swap(11, 10, 0);
+        for (int x : clauses) much("64 times 2 to the 60th, " + x, book, x, 2, 1);
+    }
+
+    /** With 24 CLAUSES the last ones keep their VALUES, whatever else is asked for */
+    private static void aFullBookInTurn() {
+        ClauseBook book = new ClauseBook();
+        book.start(40, 3, 2);
+        book.odds(1, 3);
+        book.clause(ONE, 0, 0, 0);
+        book.clause(PRICED, 0, 0, 0);
+        book.clause(LATE, 0, 1, 0);
+        book.clause(FREE, 0, 1, 0);
+        for (int i = 4; i < 24; i++) book.clause(SCALED, i == 23 ? 7 : 1, i == 4 ? 1 : i - 1, 0);
+        book.hold(0, 2, 3, 7);
+        for (int turn = 0; turn < 2; turn++) {
+            for (int spot = 0; spot <= 6; spot++) worth("the last", book, 23, 6, spot, 7 * (28 + 5 * spot), 1);
+            Check.due("mean", book.mean(1, 5, 2, 0), 119);
+            Check.due("mean, below", book.mean(1, 5, 2, 1), 3);
+            Check.due("taken", book.taken(3, 5, 3), 5);
+            Check.due("compare", book.compare(0, 2, 6, 1), 1);
+            Check.due("hold", book.hold(1, 2, 4, 6), turn == 0 ? 0 : 2);
+        }
+    }
+
+    /** "the greater of both": also if just what is behind the line tells it */
+    private static void greaterByHardlyAnything() {
+        ClauseBook book = new ClauseBook();
+        book.start(0, 9, 0);
+        book.clause(ONE, 0, 0, 0);
+        book.clause(PRICED, 0, 0, 0);
+        int late = book.clause(LATE, 0, book.clause(UNTIL, 1, 1, 0), 0);
+        int owed = book.clause(GIVEN, 0, late, 0);
+        worth("9 of 2", book, late, 0, 0, 9, 2);
+        long[][] held = {{4, 1, 1}, {5, 1, -1}, {9, 2, 0}, {13, 3, 1}, {14, 3, -1}, {17, 4, 1}, {19, 4, -1}, {89, 20, 1}, {91, 20, -1}, {0, 1, 1}, {-5, 1, 1}};
+        for (long[] h : held) {
+            book.hold(0, 2, h[0], h[1]);
+            Check.due("9 of 2 against " + h[0] + " of " + h[1], book.compare(0, late, 0, 0), h[2]);
+            book.hold(0, 2, -h[0], h[1]);
+            Check.due("-9 of 2 against " + -h[0] + " of " + h[1], book.compare(0, owed, 0, 0), -h[2]);
+        }
+        int four = book.clause(SCALED, 4, 0, 0);
+        int five = book.clause(SCALED, 5, 0, 0);
+        Check.due("9 of 2 is more than 4", book.chosen(book.clause(BETTER, 0, four, late), 0, 0), late);
+        Check.due("9 of 2 is less than 5", book.chosen(book.clause(BETTER, 0, five, late), 0, 0), five);
+        Check.due("4 is less than 9 of 2", book.chosen(book.clause(WORSE, 0, late, four), 0, 0), four);
+        Check.due("5 is more than 9 of 2", book.chosen(book.clause(WORSE, 0, late, five), 0, 0), late);
+    }
+
+    /** "VALUE of a CLAUSE against the FRACTION that a HAND holds": at that SPOT, by that HAND */
+    private static void comparedAtItsOwnSpot() {
+        ClauseBook book = new ClauseBook();
+        book.start(50, 2, 3);
+        book.clause(ONE, 0, 0, 0);
+        book.clause(PRICED, 0, 0, 0);
+        for (int day = 0; day <= 6; day++) {
+            for (int spot = 0; spot <= day; spot++) {
+                book.hold(day % 3, 2, 50 + 2 * spot - 3 * (day - spot), 1);
+                book.hold(3, 2, 1, 3);
+                Check.due("alike", book.compare(day % 3, 1, day, spot), 0);
+                Check.due("more", book.compare(3, 1, day, spot), 1);
+            }
+        }
     }
 
     /** "It is CHOSEN: of BETTER d, if VALUE of d is more than that of c, of WORSE d, if it is less; else c" */
