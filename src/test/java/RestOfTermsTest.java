@@ -741,6 +741,7 @@ public final class RestOfTermsTest {
             Check.due("above " + i, book.asFraction(3, 0), held[i][2]);
             Check.due("below " + i, book.asFraction(3, 1), held[i][3]);
         }
+        Check.due("no CLAUSE at all, but it holds another thing", book.asClause(3, 3), KIND);
         Check.due("no CLAUSE 0", book.hold(3, 1, 0, 0), BAD);
         Check.due("it holds what it held", book.asFraction(3, 1), 2);
         book.clause(ONE, 0, 0, 0);
@@ -779,10 +780,15 @@ public final class RestOfTermsTest {
         Check.due("ODDS, WAIT", book.mean(0, 0, 0, 1), 1);
         Check.due("the image stays", book.back(), 0);
         while (book.count(0) < 24) book.clause(ONE, 0, 0, 0);
+        for (int i = 0; i < 2; i++) book.drop();
+        book.clause(UNTIL, 2, 0, 0);
+        book.clause(BOTH, 0, 22, 22);
         Check.due("of a full book", book.image(), 24);
         while (book.count(0) > 0) book.drop();
+        while (book.count(0) < 24) book.clause(ONE, 0, 0, 0);
         Check.due("back", book.back(), 24);
-        Check.due("the last of them", book.clauseOf(23, 0), ONE);
+        int[] last = {BOTH, 0, 22, 22, 2, 5, 3};
+        for (int what = 0; what < 7; what++) Check.due("the last of them, " + what, book.clauseOf(23, what), last[what]);
         Check.due("no room", book.clause(ONE, 0, 0, 0), FULL);
     }
 

@@ -22,6 +22,7 @@ public final class TermsTest {
         lateOnItsEnd();
         freeOnItsEnd();
         whereNOrMore();
+        whereThatCantBeHad();
         meanOddsAtTheirEdges();
         meanInLowestTerms();
         meanProducts();
@@ -328,6 +329,25 @@ public final class TermsTest {
         worth("-100 is less", book, least, 1, 0, -1, 1);
         Check.due("due, -99", book.due(least, 0, 0, 0), 1);
         Check.due("due, -100", book.due(least, 1, 0, 1), -1);
+    }
+
+    /** "WHERE: that of the one that it names for PRICE there": 0, if just the other one can be had */
+    private static void whereThatCantBeHad() {
+        ClauseBook book = new ClauseBook();
+        book.clause(ONE, 0, 0, 0);
+        int soon = book.clause(UNTIL, 2, 0, 0);
+        int high = book.clause(WHERE, 0, soon, 0);
+        int low = book.clause(WHERE, 0, 0, soon);
+        worth("c on its END", book, high, 2, 1, 1, 1);
+        worth("c behind it", book, high, 3, 3, 0, 1);
+        worth("d can be had", book, high, 3, 0, 1, 1);
+        worth("d on its END", book, low, 2, 0, 1, 1);
+        worth("d behind it", book, low, 3, 0, 0, 1);
+        worth("c can be had", book, low, 3, 3, 1, 1);
+        Check.due("nothing falls due of c", book.dueDays(high, 3, 63), 0);
+        Check.due("nothing falls due of d", book.dueDays(low, 3, 0), 0);
+        Check.due("d falls due", book.dueDays(high, 3, 0), 8);
+        Check.due("c falls due", book.dueDays(low, 3, 63), 8);
     }
 
     /** "ODDS of going up are p of q (q 2 .. 9, p 0 .. q)"; "WAIT: a of b (b 1 .. 9, a 1 .. b)" */
