@@ -54,6 +54,18 @@ public final class ReadmeTest {
         for (int i = 0; i < words.length(); i++) book.feed(1, words.charAt(i) << 24);
         int told = book.text();
         int same = book.alike(told, free);
+        int lies = book.put(0, free);
+        int both = book.put(0, one);
+        int best = book.bagBest(0, 0, 0);
+        int sum = book.sum(0);
+        book.sheet(0, 2, 7);
+        int seven = book.dues(free, 0, 1, 0);
+        long there = book.read(0, 1, 1);
+        int held = book.hold(0, 2, 20, 2);
+        int more = book.compare(0, free, 0, 0);
+        int kept = book.image();
+        int fewer = book.drop();
+        int again = book.back();
         int refused = book.clause(2, 0, 9, 0);
         long no = book.value(9, 0, 0, 0);
         // END
@@ -69,6 +81,17 @@ public final class ReadmeTest {
         answers("left", left);
         answers("told", told);
         answers("same", same);
+        answers("lies", lies);
+        answers("both", both);
+        answers("best", best);
+        answers("sum", sum);
+        answers("seven", seven);
+        answers("there", there);
+        answers("held", held);
+        answers("more", more);
+        answers("kept", kept);
+        answers("fewer", fewer);
+        answers("again", again);
         answers("refused", refused);
         answers("no", no);
     }
